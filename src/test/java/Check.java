@@ -1,0 +1,51 @@
+/** Counts the answers that are not as due, and feeds whole texts to an object. */
+final class Check {
+    private int asked = 0;
+    private int wrong = 0;
+
+    void due(String call, long got, long want) {
+        asked++;
+        if (got != want) {
+            wrong++;
+            System.out.println(call + " answered " + got + ", due is " + want);
+        }
+    }
+
+    void holds(String what, boolean so) {
+        asked++;
+        if (!so) {
+            wrong++;
+            System.out.println("does not hold: " + what);
+        }
+    }
+
+    /** An object of which the slope is told by a text without FAULT. */
+    PicnicOfSomebody told(String text) {
+        PicnicOfSomebody x = new PicnicOfSomebody();
+        int answer = read(x, text);
+        holds("the text " + text + " is a SLOPE (" + answer + ")", answer > 0);
+        return x;
+    }
+
+    /** What slope() answers behind the letters of a text. */
+    static int read(PicnicOfSomebody x, String text) {
+        for (int i = 0; i < text.length(); i++) {
+            x.letter(text.charAt(i));
+        }
+        return x.slope();
+    }
+
+    static void row(PicnicOfSomebody x, int... numbers) {
+        x.clear();
+        for (int number : numbers) {
+            x.row(number);
+        }
+    }
+
+    void end() {
+        System.out.println(wrong == 0 ? "all " + asked + " answers are as due" : wrong + " answers are not as due");
+        if (wrong != 0) {
+            System.exit(1);
+        }
+    }
+}

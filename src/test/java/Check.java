@@ -11,6 +11,11 @@ final class Check {
         }
     }
 
+    /** Asks a call by its name. */
+    void answers(long want, PicnicOfSomebody x, String name, int... given) {
+        due(Call.told(name, given), Call.answer(x, name, given), want);
+    }
+
     void holds(String what, boolean so) {
         asked++;
         if (!so) {
@@ -29,10 +34,14 @@ final class Check {
 
     /** What slope() answers behind the letters of a text. */
     static int read(PicnicOfSomebody x, String text) {
+        letters(x, text);
+        return x.slope();
+    }
+
+    static void letters(PicnicOfSomebody x, String text) {
         for (int i = 0; i < text.length(); i++) {
             x.letter(text.charAt(i));
         }
-        return x.slope();
     }
 
     static void row(PicnicOfSomebody x, int... numbers) {

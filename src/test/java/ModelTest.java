@@ -1,10 +1,5 @@
-import java.lang.reflect.Method;
-import java.util.HashMap;
-import java.util.Map;
-
 /** Many runs of calls by lot, each answer held against the slow model of the document. */
 public final class ModelTest {
-    private static final Map<String, Method> METHODS = new HashMap<>();
     private static long seed;
 
     private static int below(int m) {
@@ -96,22 +91,18 @@ public final class ModelTest {
 
     private static int calls;
 
-    private static long both(PicnicOfSomebody x, Model model, String name, int... given) throws Exception {
-        Object[] boxed = new Object[given.length];
-        for (int i = 0; i < given.length; i++) {
-            boxed[i] = given[i];
-        }
+    private static long both(PicnicOfSomebody x, Model model, String name, int... given) {
         long want = model.call(name, given);
-        long got = ((Number) METHODS.get(name).invoke(x, boxed)).longValue();
+        long got = Call.answer(x, name, given);
         calls++;
         if (got != want) {
-            System.out.println(name + java.util.Arrays.toString(given) + " answered " + got + ", the model " + want);
+            System.out.println(Call.told(name, given) + " answered " + got + ", the model " + want);
             System.exit(1);
         }
         return got;
     }
 
-    private static void tell(PicnicOfSomebody x, Model model, String text) throws Exception {
+    private static void tell(PicnicOfSomebody x, Model model, String text) {
         for (int i = 0; i < text.length(); i++) {
             both(x, model, "letter", text.charAt(i));
         }
@@ -121,7 +112,7 @@ public final class ModelTest {
     }
 
     /** A ROW that is mostly so, told of the one, of all, or of HERE. */
-    private static void tellRow(PicnicOfSomebody x, Model model) throws Exception {
+    private static void tellRow(PicnicOfSomebody x, Model model) {
         both(x, model, "clear");
         int about = below(3);
         int person = below(8);
@@ -137,7 +128,7 @@ public final class ModelTest {
         both(x, model, below(2) == 0 ? "judge" : "clear");
     }
 
-    private static void run() throws Exception {
+    private static void run() {
         PicnicOfSomebody x = new PicnicOfSomebody();
         Model model = new Model();
         int end = calls + 380;
@@ -159,12 +150,7 @@ public final class ModelTest {
         }
     }
 
-    public static void main(String[] args) throws Exception {
-        for (Method m : PicnicOfSomebody.class.getDeclaredMethods()) {
-            if (java.lang.reflect.Modifier.isPublic(m.getModifiers())) {
-                METHODS.put(m.getName(), m);
-            }
-        }
+    public static void main(String[] args) {
         int runs = args.length > 0 ? Integer.parseInt(args[0]) : 120;
         for (int k = 0; k < runs; k++) {
             seed = 1000003L * k + 17 + (args.length > 1 ? Long.parseLong(args[1]) : 0);

@@ -331,6 +331,9 @@ public final class BoundsTest {
         asks(0, "ps0249;", "sit", 0, 20, 0);
         asks(0, "ps0249;", "sit", 0, 20, 1);
         asks(14, "pg0000;".repeat(7) + "h2401;pf2000;", "sit", 7, 1, 0);
+        // The four have each of the 25 CELLS BESIDE them: there is no CELL beyond where he would stay at 9.
+        asks(0, "pg0129;pg0060;pg0080;pg0160;pg0180;", "sit", 0, 1, 0);
+        asks(8, "pg0129;pg0060;pg0080;pg0160;pg0180;", "sit", 0, 1, 1);
         THREE.keeps(0, "sit", 0, 0, 0);
         THREE.keeps(7, "sit", 0, 0, 1);
         THREE.keeps(0, "sit", 2, 20, 0);
@@ -466,6 +469,9 @@ public final class BoundsTest {
         asks(10, "pg0000;".repeat(8), "two", 0, 7, 0);
         asks(10, "pg0000;".repeat(8), "two", 7, 0, 0);
         asks(0, "ps0000;".repeat(8), "two", 7, 6, 60);
+        // Each chooses 0 or 1 and nothing beyond, so that here no pair stands.
+        asks(-9, "h0409;ps2095;pd4069;", "two", 0, 1, 7);
+        asks(-9, "h1509;ps1051;pd6047;", "two", 0, 1, 10);
         THREE.keeps(10, "two", 0, 2, 0);
         THREE.keeps(0, "two", 1, 0, 60);
     }

@@ -383,7 +383,7 @@ public final class BoundsTest {
         asks(72, "pg9009;".repeat(8), "passed", 1);
         asks(4320, "pg9009;".repeat(8), "passed", 60);
         asks(0, "pg0009;".repeat(8), "passed", 60);
-        // As the YEAR begins: he believes first as the second begins, and not any more as the second begins.
+        // As each YEAR begins: the dog believes only when the second does, the doubter only when the first does.
         asks(0, "pd9004;", "passed", 1);
         asks(9, "pd9004;", "passed", 2);
         asks(9, "ps9005;", "passed", 1);

@@ -1,7 +1,27 @@
 /** Counts the answers that are not as due, and feeds whole texts to an object. */
 final class Check {
+    private static final long MOST_SECONDS = 300;
     private int asked = 0;
     private int wrong = 0;
+
+    Check() {
+        endsInTime();
+    }
+
+    /** A call that does not end is a fault as well: the test then fails instead of standing still. */
+    static void endsInTime() {
+        Thread watch = new Thread(() -> {
+            try {
+                Thread.sleep(1000 * MOST_SECONDS);
+                System.out.println("the test has not ended in " + MOST_SECONDS + " seconds");
+                Runtime.getRuntime().halt(1);
+            } catch (InterruptedException e) {
+                Thread.currentThread().interrupt();
+            }
+        });
+        watch.setDaemon(true);
+        watch.start();
+    }
 
     void due(String call, long got, long want) {
         asked++;

@@ -151,6 +151,9 @@ public final class ModelTest {
     }
 
     public static void main(String[] args) {
+        if (args.length == 0) {
+            Check.endsInTime();
+        }
         int runs = args.length > 0 ? Integer.parseInt(args[0]) : 120;
         for (int k = 0; k < runs; k++) {
             seed = 1000003L * k + 17 + (args.length > 1 ? Long.parseLong(args[1]) : 0);

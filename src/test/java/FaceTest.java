@@ -11,7 +11,9 @@ import java.util.ArrayList;
 import java.util.Arrays;
 import java.util.HashSet;
 import java.util.List;
+import java.util.Map;
 import java.util.Set;
+import java.util.TreeMap;
 import java.util.TreeSet;
 import java.util.regex.Matcher;
 import java.util.regex.Pattern;
@@ -100,6 +102,7 @@ public final class FaceTest {
                     || line.matches(" +(private )?final [\\w\\[\\]]+ \\w+ = new .*;"));
         }
         methodsAreShort(code.split("\n"));
+        callsAreNotDeep(code.split("\n"));
     }
 
     private static void methodsAreShort(String[] lines) {
@@ -111,6 +114,53 @@ public final class FaceTest {
             CHECK.holds("a method of sixty lines at most about line " + i, i - begin <= 60
                     || !lines[i].startsWith("            "));
         }
+    }
+
+    private static final int MOST_DEEP = 8;
+    private static final Pattern DECLARED = Pattern.compile("( +)(?!.*\\b(?:new|return|else)\\b)[\\w\\[\\] ]* ?\\b(\\w+)\\(.*\\) \\{");
+    private static final Pattern CALLED = Pattern.compile("\\b(?:(Math|Integer|System)\\.)?(\\w+)\\(");
+    private static final Set<String> NO_CALLS = Set.of("if", "for", "while", "switch");
+
+    /** Rules 8 and 11: no method comes back to itself, and a way of calls has eight at most, the library's too. */
+    private static void callsAreNotDeep(String[] lines) {
+        Map<String, Set<String>> calls = callsByName(lines);
+        CHECK.holds("the public methods are found", calls.containsKey("letter") && calls.containsKey("count"));
+        for (String name : calls.keySet()) {
+            int deep = deepest(name, calls, MOST_DEEP + 1);
+            CHECK.holds(name + " goes eight deep at most", deep <= MOST_DEEP);
+        }
+    }
+
+    /** Methods of one name are taken as one: that makes a way longer, never shorter. */
+    private static Map<String, Set<String>> callsByName(String[] lines) {
+        Map<String, Set<String>> calls = new TreeMap<>();
+        Set<String> current = new HashSet<>();
+        for (String line : lines) {
+            Matcher declared = DECLARED.matcher(line);
+            boolean begins = declared.matches() && !NO_CALLS.contains(declared.group(2));
+            if (begins) {
+                current = calls.computeIfAbsent(declared.group(2), name -> new HashSet<>());
+                continue;
+            }
+            Matcher called = CALLED.matcher(line);
+            while (called.find()) {
+                String library = called.group(1) == null ? "" : called.group(1) + ".";
+                if (!NO_CALLS.contains(called.group(2))) {
+                    current.add(library + called.group(2));
+                }
+            }
+        }
+        return calls;
+    }
+
+    private static int deepest(String name, Map<String, Set<String>> calls, int limit) {
+        int most = 0;
+        if (limit > 0) {
+            for (String next : calls.getOrDefault(name, Set.of())) {
+                most = Math.max(most, deepest(next, calls, limit - 1));
+            }
+        }
+        return 1 + most;
     }
 
     public static void main(String[] args) throws IOException {

@@ -81,10 +81,11 @@ public final class MindTest {
         firsts("pc0009;pc0000;", -9, -9, -9);
         firsts("h2309;pd4091;pc1243;pg3233;", 23, 0, 27);
         firsts("h2109;ps4008;ps0039;pg2039;", 0, 16, 20);
-        // These come to it late: behind 60 YEARS, behind 61 (too late), and NONE behind 21.
+        // These come to it late: behind 60 YEARS, behind 61 (too late), and NONE behind 22, the latest that was found.
         firstOf("h0409;po0040;po1140;po5240;pc0192;po0080;pg5133;pd7200;pc0172;", 0, 60);
         firstOf("h0409;po6040;po0140;po5240;pc5192;pg8080;pg9130;pd7200;pc3170;", 0, -9);
         firstOf("h0409;ps3191;pf0142;ps0209;ps6137;pd0022;pg3159;", 1, 21);
+        firstOf("h1009;pg4122;ps2033;pg3202;pd0029;ps3203;ps4040;pg2247;pg4002;", 1, 22);
         firstOf("h2409;pf0140;pc8074;pg2180;po7030;pc1040;pd1000;pc6090;", 2, 60);
         firstOf("h2009;pf8000;pd3047;pg4114;pg3101;pg3201;pc1020;pf7200;", 2, -9);
         PicnicOfSomebody x = new PicnicOfSomebody();
